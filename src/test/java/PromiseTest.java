@@ -425,6 +425,7 @@ public final class PromiseTest {
         int gone = z.add(0, 0, 1, 0);
         z.delete(0, gone);
         z.carry(1, 1);
+        Check.due("nothing to delete yet", z.entries(1), 2);
         z.carry(0, 1);
         Check.due("deleted ahead of its adding", z.isThere(1, gone), false);
         Check.due("entries then", z.entries(1), 2);
@@ -791,6 +792,11 @@ public final class PromiseTest {
         }
         Check.nothing("the last entry", () -> x.setRight(2, 41, DENY));
         Check.due("no change", x.changes(), 5);
+        EntryMasters y = new EntryMasters();
+        int every = anything(y);
+        y.setRight(0, 41, DENY);
+        y.setRight(2, 0, DENY);
+        Check.due("the rights of others", found(y, 0, 1, 0, ALL, every), "0 1");
     }
 
     private static void deepRights() {
@@ -1030,6 +1036,7 @@ public final class PromiseTest {
         Check.due("all at the other", found(x, 1, 0, 0, ALL, anything), all);
         Check.due("one level", found(x, 0, 0, 0, ONE, anything), "5 8 2 3 1 4 9 10");
         Check.due("below", found(x, 0, 0, 3, ALL, anything), "3 6 7");
+        Check.due("one level with the label 0", found(x, 0, 0, 3, ONE, anything), "6 7");
         x.refer(5, true);
         x.refer(3, true);
         x.refer(10, true);
