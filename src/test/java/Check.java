@@ -4,6 +4,10 @@ final class Check {
         void make();
     }
 
+    interface Question {
+        long ask();
+    }
+
     private static int passed = 0;
     private static int failed = 0;
     private static String part = "";
@@ -50,6 +54,15 @@ final class Check {
             return "nothing thrown";
         } catch (RuntimeException e) {
             return e.getClass().getSimpleName();
+        }
+    }
+
+    /** An answer as a text, where a throw is an answer too. */
+    static String answer(Question question) {
+        try {
+            return Long.toString(question.ask());
+        } catch (RuntimeException e) {
+            return "threw " + e.getClass().getSimpleName();
         }
     }
 

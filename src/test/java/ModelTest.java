@@ -5,10 +5,6 @@ public final class ModelTest {
     private static final int RUNS = 1500;
     private static final int CALLS = 512;
 
-    private interface Call {
-        long make();
-    }
-
     private final Random random;
     private final EntryMasters x = new EntryMasters();
     private final Model m = new Model();
@@ -284,21 +280,13 @@ public final class ModelTest {
     }
 
     /** Makes one call at both; what is thrown counts as an answer by its exact name. */
-    private long both(String what, Call ofProgram, Call ofModel) {
+    private long both(String what, Check.Question ofProgram, Check.Question ofModel) {
         calls++;
         trace.append(what).append("; ");
-        String got = answer(ofProgram);
-        String want = answer(ofModel);
+        String got = Check.answer(ofProgram);
+        String want = Check.answer(ofModel);
         String where = got.equals(want) || faultsTold++ > 0 ? what : trace.toString();
         Check.due("call " + calls + ": " + where, got, want);
         return want.startsWith("threw") ? -1 : Long.parseLong(want);
-    }
-
-    private static String answer(Call call) {
-        try {
-            return Long.toString(call.make());
-        } catch (RuntimeException e) {
-            return "threw " + e.getClass().getSimpleName();
-        }
     }
 }

@@ -44,49 +44,13 @@ public final class PromiseTest {
         Check.finish("PromiseTest");
     }
 
-    /** What tells a tree: every entry with its parent, label and values. */
-    private static String tree(EntryMasters x, int master) {
-        StringBuilder text = new StringBuilder();
-        text.append(x.entries(master)).append(" of ").append(x.changes());
-        for (int e = 0; e < 42; e++) {
-            if (x.isThere(master, e)) {
-                text.append(" [").append(e).append(" under ").append(x.parentOf(master, e));
-                text.append(" as ").append(x.labelOf(master, e)).append(':');
-                for (int a = 0; a < 4; a++) {
-                    text.append(' ').append(x.value(master, e, a));
-                }
-                text.append(']');
-            }
-        }
-        return text.toString();
-    }
-
-    /** All that a search finds. */
-    private static String found(EntryMasters x, int master, int user, int base, int scope, int filter) {
-        StringBuilder text = new StringBuilder();
-        for (int place = 0; place < 43; place++) {
-            int entry = x.search(master, user, base, scope, filter, place);
-            if (entry == NONE) {
-                break;
-            }
-            text.append(place == 0 ? "" : " ").append(entry);
-        }
-        return text.toString();
-    }
-
-    /** A filter that is true for every entry whose class allows the attribute 0. */
-    private static int anything(EntryMasters x) {
-        int present = x.test(0, 0, 0);
-        return x.join(1, present, x.join(2, present, present));
-    }
-
     private static void newObject() {
         Check.part("promise 1");
         EntryMasters x = new EntryMasters();
         Check.due("changes", x.changes(), 0);
         String first = "2 of 0 [0 under -1 as -1: -1 -1 -1 -1] [1 under 0 as 99: -1 -1 -1 -1]";
-        Check.due("first tree", tree(x, 0), first);
-        Check.due("second tree", tree(x, 1), first);
+        Check.due("first tree", Ask.tree(x, 0), first);
+        Check.due("second tree", Ask.tree(x, 1), first);
         Check.due("areAlike", x.areAlike(), true);
         Check.index("no change to carry", () -> x.carry(0, 0));
         Check.index("no time", () -> x.timeOf(0));
@@ -99,9 +63,9 @@ public final class PromiseTest {
                 Check.due("allows " + its + " " + a, x.set(0, entry, a, a), NONE);
             }
         }
-        int anything = anything(x);
+        int anything = Ask.anything(x);
         for (int user = 0; user < 3; user++) {
-            Check.due("allowed " + user, found(x, 0, user, 0, ALL, anything), "0 2 7 12 1");
+            Check.due("allowed " + user, Ask.found(x, 0, user, 0, ALL, anything), "0 2 7 12 1");
         }
         EntryMasters other = new EntryMasters();
         Check.due("objects share nothing", other.changes(), 0);
@@ -155,7 +119,7 @@ public final class PromiseTest {
         Check.due("under the lost one", x.add(1, 1, 49, 1), 5);
         Check.due("set is a change too", x.set(0, 2, 0, 1), NONE);
         Check.due("number of the change plus 2", x.add(0, 3, 0, 0), 7);
-        Check.due("first tree", tree(x, 0), "5 of 6 [0 under -1 as -1: -1 -1 -1 -1]"
+        Check.due("first tree", Ask.tree(x, 0), "5 of 6 [0 under -1 as -1: -1 -1 -1 -1]"
                 + " [1 under 0 as 99: -1 -1 -1 -1] [2 under 0 as 0: 1 -1 -1 -1]"
                 + " [3 under 2 as 99: -1 -1 -1 -1] [7 under 3 as 0: -1 -1 -1 -1]");
         for (int bad : BAD_MASTERS) {
@@ -254,7 +218,7 @@ public final class PromiseTest {
         int gone = y.add(0, 0, 0, 0);
         y.set(0, gone, 0, 1);
         y.carry(1, 1);
-        Check.due("not there, so nothing", tree(y, 1), tree(new EntryMasters(), 1).replace("of 0", "of 2"));
+        Check.due("not there, so nothing", Ask.tree(y, 1), Ask.tree(new EntryMasters(), 1).replace("of 0", "of 2"));
         y.carry(0, 1);
         Check.due("there then", y.value(1, gone, 0), 1);
     }
@@ -755,31 +719,31 @@ public final class PromiseTest {
         int a = x.add(0, 0, 1, 0);
         int b = x.add(0, a, 1, 0);
         int c = x.add(0, b, 1, 0);
-        int anything = anything(x);
+        int anything = Ask.anything(x);
         x.setRight(0, a, DENY);
-        Check.due("denied with all below", found(x, 0, 0, 0, ALL, anything), "0 1");
-        Check.due("other users are not", found(x, 0, 1, 0, ALL, anything), "0 2 3 4 1");
-        Check.due("nor the third", found(x, 0, 2, 0, ALL, anything), "0 2 3 4 1");
+        Check.due("denied with all below", Ask.found(x, 0, 0, 0, ALL, anything), "0 1");
+        Check.due("other users are not", Ask.found(x, 0, 1, 0, ALL, anything), "0 2 3 4 1");
+        Check.due("nor the third", Ask.found(x, 0, 2, 0, ALL, anything), "0 2 3 4 1");
         x.setRight(0, b, ALLOW);
-        Check.due("the nearest counts", found(x, 0, 0, 0, ALL, anything), "0 3 4 1");
+        Check.due("the nearest counts", Ask.found(x, 0, 0, 0, ALL, anything), "0 3 4 1");
         x.setRight(0, c, DENY);
-        Check.due("its own is ahead", found(x, 0, 0, 0, ALL, anything), "0 3 1");
+        Check.due("its own is ahead", Ask.found(x, 0, 0, 0, ALL, anything), "0 3 1");
         x.setRight(0, c, NONE);
-        Check.due("taken away", found(x, 0, 0, 0, ALL, anything), "0 3 4 1");
+        Check.due("taken away", Ask.found(x, 0, 0, 0, ALL, anything), "0 3 4 1");
         x.setRight(2, 0, DENY);
-        Check.due("root's for all", found(x, 0, 2, 0, ALL, anything), "");
+        Check.due("root's for all", Ask.found(x, 0, 2, 0, ALL, anything), "");
         x.setRight(2, 1, ALLOW);
-        Check.due("lost one allowed", found(x, 0, 2, 0, ALL, anything), "1");
+        Check.due("lost one allowed", Ask.found(x, 0, 2, 0, ALL, anything), "1");
         x.setRight(1, 5, DENY);
         int d = x.add(1, 0, 7, 0);
-        Check.due("right ahead of the entry", found(x, 1, 1, 0, ALL, anything), "0 1");
+        Check.due("right ahead of the entry", Ask.found(x, 1, 1, 0, ALL, anything), "0 1");
         Check.due("both masters alike", x.carry(d - 2, 0), true);
-        Check.due("at the first", found(x, 0, 1, 0, ALL, anything), "0 2 3 4 1");
+        Check.due("at the first", Ask.found(x, 0, 1, 0, ALL, anything), "0 2 3 4 1");
         x.setRight(1, 5, ALLOW);
-        Check.due("at the second again", found(x, 1, 1, 0, ALL, anything), "0 5 1");
+        Check.due("at the second again", Ask.found(x, 1, 1, 0, ALL, anything), "0 5 1");
         x.move(0, c, 0, 30);
         x.setRight(0, 0, DENY);
-        Check.due("by the tree as it is", found(x, 0, 0, 0, ALL, anything), "3");
+        Check.due("by the tree as it is", Ask.found(x, 0, 0, 0, ALL, anything), "3");
         for (int bad : new int[] {-1, 3, LEAST, GREATEST}) {
             Check.index("user " + bad, () -> x.setRight(bad, 0, 0));
         }
@@ -793,10 +757,10 @@ public final class PromiseTest {
         Check.nothing("the last entry", () -> x.setRight(2, 41, DENY));
         Check.due("no change", x.changes(), 5);
         EntryMasters y = new EntryMasters();
-        int every = anything(y);
+        int every = Ask.anything(y);
         y.setRight(0, 41, DENY);
         y.setRight(2, 0, DENY);
-        Check.due("the rights of others", found(y, 0, 1, 0, ALL, every), "0 1");
+        Check.due("the rights of others", Ask.found(y, 0, 1, 0, ALL, every), "0 1");
     }
 
     private static void deepRights() {
@@ -806,7 +770,7 @@ public final class PromiseTest {
         for (int i = 0; i < 40; i++) {
             last = x.add(0, last, 0, 0);
         }
-        int anything = anything(x);
+        int anything = Ask.anything(x);
         Check.due("the deepest", x.search(0, 0, last, BASE, anything, 0), 41);
         Check.due("the last place", x.search(0, 0, 0, ALL, anything, 41), 41);
         Check.due("no more", x.search(0, 0, 0, ALL, anything, 42), NONE);
@@ -823,27 +787,27 @@ public final class PromiseTest {
         int a = x.add(0, 0, 1, 0);
         int b = x.add(0, a, 1, 0);
         x.add(0, b, 1, 0);
-        int anything = anything(x);
+        int anything = Ask.anything(x);
         x.refer(a, true);
-        Check.due("nor what lies below", found(x, 0, 0, 0, ALL, anything), "0 1");
-        Check.due("not of one level", found(x, 0, 0, 0, ONE, anything), "1");
-        Check.due("but as the base", found(x, 0, 0, a, ALL, anything), "2 3 4");
-        Check.due("base alone", found(x, 0, 0, a, BASE, anything), "2");
-        Check.due("what is under it as the base", found(x, 0, 0, a, ONE, anything), "3");
-        Check.due("below it as the base", found(x, 0, 0, b, ALL, anything), "3 4");
+        Check.due("nor what lies below", Ask.found(x, 0, 0, 0, ALL, anything), "0 1");
+        Check.due("not of one level", Ask.found(x, 0, 0, 0, ONE, anything), "1");
+        Check.due("but as the base", Ask.found(x, 0, 0, a, ALL, anything), "2 3 4");
+        Check.due("base alone", Ask.found(x, 0, 0, a, BASE, anything), "2");
+        Check.due("what is under it as the base", Ask.found(x, 0, 0, a, ONE, anything), "3");
+        Check.due("below it as the base", Ask.found(x, 0, 0, b, ALL, anything), "3 4");
         x.refer(4, true);
-        Check.due("two of them", found(x, 0, 0, a, ALL, anything), "2 3");
+        Check.due("two of them", Ask.found(x, 0, 0, a, ALL, anything), "2 3");
         x.refer(a, false);
-        Check.due("none any more", found(x, 0, 0, 0, ALL, anything), "0 2 3 1");
+        Check.due("none any more", Ask.found(x, 0, 0, 0, ALL, anything), "0 2 3 1");
         x.refer(1, true);
         x.refer(0, true);
-        Check.due("root and lost one", found(x, 0, 0, 0, ALL, anything), "0 2 3");
-        Check.due("at both masters", found(x, 1, 0, 0, ALL, anything), "0");
+        Check.due("root and lost one", Ask.found(x, 0, 0, 0, ALL, anything), "0 2 3");
+        Check.due("at both masters", Ask.found(x, 1, 0, 0, ALL, anything), "0");
         x.refer(5, true);
         x.add(1, 0, 1, 0);
-        Check.due("ahead of the entry", found(x, 1, 0, 0, ALL, anything), "0");
+        Check.due("ahead of the entry", Ask.found(x, 1, 0, 0, ALL, anything), "0");
         x.refer(5, false);
-        Check.due("not any more", found(x, 1, 0, 0, ALL, anything), "0 5");
+        Check.due("not any more", Ask.found(x, 1, 0, 0, ALL, anything), "0 5");
         Check.due("holds all the same", x.holds(0, anything, 4), 1);
         for (int bad : new int[] {-1, 42, LEAST, GREATEST}) {
             Check.index("entry " + bad, () -> x.refer(bad, true));
@@ -988,22 +952,22 @@ public final class PromiseTest {
         int present = x.test(0, 0, 0);
         int seven = x.test(2, 0, 7);
         int none = x.join(2, present, 0);
-        Check.due("all", found(x, 0, 0, 0, ALL, present), d + " " + b + " 1");
-        Check.due("7 or more", found(x, 0, 0, 0, ALL, seven), d + " " + b);
-        Check.due("not, but unknown", found(x, 0, 0, 0, ALL, none), "0 " + a);
-        Check.due("one level", found(x, 0, 0, 0, ONE, present), d + " 1");
-        Check.due("not the base itself", found(x, 0, 0, 0, ONE, none), "" + a);
-        Check.due("the base alone", found(x, 0, 0, 0, BASE, none), "0");
-        Check.due("not the base", found(x, 0, 0, 0, BASE, present), "");
-        Check.due("from below", found(x, 0, 0, a, ALL, present), "" + b);
-        Check.due("unknown is not found", found(x, 0, 0, c, BASE, none), "");
-        Check.due("at the other master", found(x, 1, 0, 0, ALL, none), "0 1");
+        Check.due("all", Ask.found(x, 0, 0, 0, ALL, present), d + " " + b + " 1");
+        Check.due("7 or more", Ask.found(x, 0, 0, 0, ALL, seven), d + " " + b);
+        Check.due("not, but unknown", Ask.found(x, 0, 0, 0, ALL, none), "0 " + a);
+        Check.due("one level", Ask.found(x, 0, 0, 0, ONE, present), d + " 1");
+        Check.due("not the base itself", Ask.found(x, 0, 0, 0, ONE, none), "" + a);
+        Check.due("the base alone", Ask.found(x, 0, 0, 0, BASE, none), "0");
+        Check.due("not the base", Ask.found(x, 0, 0, 0, BASE, present), "");
+        Check.due("from below", Ask.found(x, 0, 0, a, ALL, present), "" + b);
+        Check.due("unknown is not found", Ask.found(x, 0, 0, c, BASE, none), "");
+        Check.due("at the other master", Ask.found(x, 1, 0, 0, ALL, none), "0 1");
         Check.due("the greatest place", x.search(0, 0, 0, ALL, present, GREATEST), NONE);
         x.setRight(1, d, DENY);
-        Check.due("the user's right", found(x, 0, 1, 0, ALL, present), b + " 1");
+        Check.due("the user's right", Ask.found(x, 0, 1, 0, ALL, present), b + " 1");
         x.setRight(1, 0, DENY);
         x.setRight(1, a, ALLOW);
-        Check.due("a denied base", found(x, 0, 1, 0, ALL, present), "" + b);
+        Check.due("a denied base", Ask.found(x, 0, 1, 0, ALL, present), "" + b);
         Check.due("below a denied entry", x.search(0, 1, 0, ALL, present, 0), b);
         Check.due("one place further", x.search(0, 1, 0, ALL, present, 1), NONE);
     }
@@ -1021,7 +985,7 @@ public final class PromiseTest {
         x.add(1, 0, 11, 0);
         x.add(1, 0, 10, 0);
         x.add(1, 9, 1, 0);
-        int anything = anything(x);
+        int anything = Ask.anything(x);
         for (int change = 0; change < 10; change++) {
             x.carry(change, 0);
             x.carry(change, 1);
@@ -1032,17 +996,17 @@ public final class PromiseTest {
         Check.due("second of them", x.labelOf(0, 9), NONE);
         Check.due("second of 60 and 10", x.labelOf(0, 10), NONE);
         String all = "0 5 8 2 3 6 7 1 4 9 11 10";
-        Check.due("all", found(x, 0, 0, 0, ALL, anything), all);
-        Check.due("all at the other", found(x, 1, 0, 0, ALL, anything), all);
-        Check.due("one level", found(x, 0, 0, 0, ONE, anything), "5 8 2 3 1 4 9 10");
-        Check.due("below", found(x, 0, 0, 3, ALL, anything), "3 6 7");
-        Check.due("one level with the label 0", found(x, 0, 0, 3, ONE, anything), "6 7");
+        Check.due("all", Ask.found(x, 0, 0, 0, ALL, anything), all);
+        Check.due("all at the other", Ask.found(x, 1, 0, 0, ALL, anything), all);
+        Check.due("one level", Ask.found(x, 0, 0, 0, ONE, anything), "5 8 2 3 1 4 9 10");
+        Check.due("below", Ask.found(x, 0, 0, 3, ALL, anything), "3 6 7");
+        Check.due("one level with the label 0", Ask.found(x, 0, 0, 3, ONE, anything), "6 7");
         x.refer(5, true);
         x.refer(3, true);
         x.refer(10, true);
-        Check.due("without referrals", found(x, 0, 0, 0, ALL, anything), "0 8 2 1 4 9 11");
-        Check.due("one level too", found(x, 0, 0, 0, ONE, anything), "8 2 1 4 9");
-        Check.due("a referral as the base", found(x, 0, 0, 3, ALL, anything), "3 6 7");
+        Check.due("without referrals", Ask.found(x, 0, 0, 0, ALL, anything), "0 8 2 1 4 9 11");
+        Check.due("one level too", Ask.found(x, 0, 0, 0, ONE, anything), "8 2 1 4 9");
+        Check.due("a referral as the base", Ask.found(x, 0, 0, 3, ALL, anything), "3 6 7");
     }
 
     private static void searchThrows() {
@@ -1082,7 +1046,7 @@ public final class PromiseTest {
         int a = x.add(0, 0, 1, 1);
         x.add(0, a, 1, 0);
         x.set(0, a, 0, 4);
-        String before = tree(x, 0) + tree(x, 1);
+        String before = Ask.tree(x, 0) + Ask.tree(x, 1);
         Check.state("add", () -> x.add(0, 0, 51, 0));
         Check.state("set", () -> x.set(0, a, 1, 1));
         Check.argument("set's value", () -> x.set(0, a, 0, 10));
@@ -1091,11 +1055,11 @@ public final class PromiseTest {
         Check.state("delete", () -> x.delete(0, a));
         Check.state("setClass", () -> x.setClass(1, 15, 15));
         Check.index("carry", () -> x.carry(0, 2));
-        Check.due("trees", tree(x, 0) + tree(x, 1), before);
+        Check.due("trees", Ask.tree(x, 0) + Ask.tree(x, 1), before);
         Check.due("whole", x.isWhole(0, a), true);
         Check.due("the next change's number", x.add(0, 0, 9, 0), 5);
         Check.due("the next change's time", x.timeOf(3), 4);
-        int anything = anything(x);
+        int anything = Ask.anything(x);
         Check.argument("right", () -> x.setRight(0, 0, 2));
         Check.index("user", () -> x.setRight(-1, 41, DENY));
         Check.index("entry", () -> x.setRight(0, 42, DENY));
