@@ -32,6 +32,7 @@ public final class EdgeTest {
         moveLastChange();
         deleteBounds();
         deleteLastChange();
+        deleteAboveEach();
         changesFull();
         carryBounds();
         carryFull();
@@ -45,6 +46,8 @@ public final class EdgeTest {
         findEmpty();
         areAlikeEdges();
         areAlikeByOneThing();
+        areAlikeByTheLast();
+        areAlikeButForWhatIsGone();
         setRightBounds();
         setRightFull();
         referBounds();
@@ -385,6 +388,45 @@ public final class EdgeTest {
         Check.due("is not", x.isThere(0, 39), true);
     }
 
+    private static void deleteAboveEach() {
+        Check.part("promise 6, carried: each entry whose parent it was, from 3 to 41");
+        EntryMasters x = new EntryMasters();
+        x.add(0, 0, 1, 0);
+        x.carry(0, 1);
+        addNineteenBelow(x, 1, 2);
+        fill(x, 0, 39);
+        x.delete(0, 2);
+        areUnderTheLost(x, 3, 21);
+        EntryMasters y = new EntryMasters();
+        y.add(0, 0, 1, 0);
+        y.carry(0, 1);
+        fill(y, 0, 20);
+        y.delete(0, 2);
+        addNineteenBelow(y, 1, 2);
+        areUnderTheLost(y, 23, 41);
+    }
+
+    private static void addNineteenBelow(EntryMasters x, int master, int parent) {
+        for (int label = 0; label < 19; label++) {
+            x.add(master, parent, label, 0);
+        }
+    }
+
+    /** By labels from 0, once both masters know all; ahead of it one of them still has the parent. */
+    private static void areUnderTheLost(EntryMasters x, int first, int last) {
+        Check.due("at first under their parent", Ask.found(x, 1, 0, 2, ONE, Ask.anything(x)), numbers(first, last));
+        for (int change = 0; change < x.changes(); change++) {
+            x.carry(change, 0);
+            x.carry(change, 1);
+        }
+        for (int entry = first; entry <= last; entry++) {
+            Check.due("parent of " + entry, x.parentOf(0, entry), 1);
+            Check.due("label of " + entry, x.labelOf(0, entry), entry - first);
+            Check.due("parent at the other of " + entry, x.parentOf(1, entry), 1);
+        }
+        Check.due("alike", x.areAlike(), true);
+    }
+
     // ---- promises 7 to 9
 
     private static void changesFull() {
@@ -639,6 +681,43 @@ public final class EdgeTest {
         x.setRight(0, 0, DENY);
         x.refer(1, true);
         Check.due("rights and referrals do not count", x.areAlike(), true);
+    }
+
+    private static void areAlikeByTheLast() {
+        Check.part("promise 17: the last entry of all at one of them alone");
+        for (int master = 0; master < 2; master++) {
+            EntryMasters x = chain(master, 0, 40);
+            for (int change = 0; change < 39; change++) {
+                x.carry(change, 1 - master);
+            }
+            Check.due("at one alone", x.isThere(master, 41) && !x.isThere(1 - master, 41), true);
+            Check.due("differ", x.areAlike(), false);
+            x.carry(39, 1 - master);
+            Check.due("at both", x.areAlike(), true);
+        }
+    }
+
+    private static void areAlikeButForWhatIsGone() {
+        Check.part("promise 17: what is gone, or never was there, does not count");
+        EntryMasters x = new EntryMasters();
+        x.add(0, 0, 1, 0);
+        x.carry(0, 1);
+        x.set(0, 2, 0, 4);
+        x.delete(0, 2);
+        x.delete(1, 2);
+        Check.due("had a value at one alone", x.areAlike(), true);
+        EntryMasters y = new EntryMasters();
+        y.add(0, 0, 1, 0);
+        y.carry(0, 1);
+        y.move(1, 2, 1, 7);
+        y.delete(0, 2);
+        y.delete(1, 2);
+        Check.due("had another parent and label", y.areAlike(), true);
+        EntryMasters z = new EntryMasters();
+        z.add(0, 0, 1, 2);
+        z.set(0, 2, 3, 0);
+        z.delete(0, 2);
+        Check.due("was there at one alone", z.areAlike(), true);
     }
 
     // ---- promises 18 and 19
